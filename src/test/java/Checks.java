@@ -6,11 +6,17 @@ final class Checks {
     }
 
     private final String name;
+    private String sentence = "";
     private int good;
     private int bad;
 
     Checks(String name) {
         this.name = name;
+    }
+
+    /** The sentence of the document that the next checks are of; its promise, or 0 for the description. */
+    void sentence(int promise, String said) {
+        sentence = "[" + promise + ": " + said + "] ";
     }
 
     void due(String what, long due, long got) {
@@ -60,12 +66,29 @@ final class Checks {
         for (int what = 0; what <= 16; what++) {
             all.append(' ').append(line.line(what));
         }
-        for (int train = 0; train < line.line(3); train++) {
-            for (int tails = 0; tails <= 30 && line.ofTrain(train, 3) == 1; tails += 5) {
-                all.append(' ').append(line.ahead(train, tails));
+        for (int section = 0; section < line.line(0); section++) {
+            for (int what = 0; what <= 6; what++) {
+                all.append(' ').append(line.ofSection(section, what));
             }
         }
+        for (int route = 0; route < line.line(1); route++) {
+            for (int what = 0; what <= 9; what++) {
+                all.append(' ').append(line.ofRoute(route, what));
+            }
+        }
+        for (int train = 0; train < line.line(3); train++) {
+            drawTrain(all, line, train);
+        }
         return all.toString();
+    }
+
+    private static void drawTrain(StringBuilder all, Miceline line, int train) {
+        for (int what = 0; what <= 6; what++) {
+            all.append(' ').append(line.ofTrain(train, what));
+        }
+        for (int tails = 0; tails <= 30 && line.ofTrain(train, 3) == 1; tails += 5) {
+            all.append(' ').append(line.ahead(train, tails));
+        }
     }
 
     private void note(boolean is, String what, String got, String due) {
@@ -73,7 +96,7 @@ final class Checks {
             good++;
         } else {
             bad++;
-            System.out.println(name + ": " + what + " answered " + got + ", due is " + due);
+            System.out.println(name + ": " + sentence + what + " answered " + got + ", due is " + due);
         }
     }
 

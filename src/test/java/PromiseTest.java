@@ -1,8 +1,8 @@
 /** Promise by promise: ordinary inputs, the edges that the document names, and wrong inputs. */
 public final class PromiseTest {
-    private static final int NONE = -1;
-    private static final int MOST = Integer.MAX_VALUE;
-    private static final int LEAST = Integer.MIN_VALUE;
+    private static final int NONE = Lines.NONE;
+    private static final int MOST = Lines.MOST;
+    private static final int LEAST = Lines.LEAST;
 
     private final Checks checks = new Checks("PromiseTest");
 
@@ -40,35 +40,6 @@ public final class PromiseTest {
         test.checks.end();
     }
 
-    private static Miceline withSections(int... lengths) {
-        Miceline line = new Miceline();
-        for (int length : lengths) {
-            line.section(length);
-        }
-        return line;
-    }
-
-    /** Three SECTIONS of 2 tails, and two ROUTES from both ends that meet in the middle one. */
-    private static Miceline meeting() {
-        Miceline line = withSections(2, 2, 2);
-        line.route(0, 1, NONE);
-        line.route(2, 1, NONE);
-        return line;
-    }
-
-    /** The meeting, with both trains of 1 tail ON by loose locks: each in its own first SECTION. */
-    private static Miceline bothOn() {
-        Miceline line = meeting();
-        line.loose(0, 1, true);
-        line.train(0, 1, 1);
-        line.train(1, 1, 1);
-        line.pull(0);
-        line.pull(1);
-        line.enter(0);
-        line.enter(1);
-        return line;
-    }
-
     private void newObject() {
         Miceline line = new Miceline();
         for (int what = 0; what <= 16; what++) {
@@ -97,7 +68,7 @@ public final class PromiseTest {
     }
 
     private void route() {
-        Miceline line = withSections(1, 2, 3, 4);
+        Miceline line = Lines.withSections(1, 2, 3, 4);
         for (int wrong : new int[] {-1, -2, 4, LEAST, MOST}) {
             checks.dueIndex("3: route(" + wrong + ", 1, 2)", line, () -> line.route(wrong, 1, 2));
             checks.dueIndex("3: route(1, " + wrong + ", 2)", line, () -> line.route(1, wrong, 2));
@@ -126,7 +97,7 @@ public final class PromiseTest {
     }
 
     private void pull() {
-        Miceline line = meeting();
+        Miceline line = Lines.meeting();
         for (int wrong : new int[] {-1, 2, LEAST, MOST}) {
             checks.dueIndex("4: pull(" + wrong + ")", line, () -> line.pull(wrong));
         }
@@ -140,7 +111,7 @@ public final class PromiseTest {
         checks.due("4: who holds it", 0, line.ofRoute(1, 5));
         line.loose(1, 0, true);
         checks.due("4: a foe with a loose lock", 0, line.pull(1));
-        Miceline used = meeting();
+        Miceline used = Lines.meeting();
         used.train(0, 1, 1);
         used.pull(0);
         used.enter(0);
@@ -154,7 +125,7 @@ public final class PromiseTest {
 
     /** HELD goes before a detector, that before a CAT; what lies does not refuse. */
     private void pullInOrder() {
-        Miceline line = meeting();
+        Miceline line = Lines.meeting();
         line.train(0, 6, 1);
         line.pull(0);
         line.enter(0);
@@ -170,7 +141,7 @@ public final class PromiseTest {
         line.cat(2, false);
         line.cat(0, true);
         checks.due("4: a cat elsewhere", 0, line.pull(1));
-        Miceline cats = meeting();
+        Miceline cats = Lines.meeting();
         cats.cat(1, true);
         checks.due("4: a cat in the second section", 3, cats.pull(0));
         checks.due("4: for both", 3, cats.pull(1));
@@ -179,7 +150,7 @@ public final class PromiseTest {
     }
 
     private void back() {
-        Miceline line = meeting();
+        Miceline line = Lines.meeting();
         for (int wrong : new int[] {-1, 2, LEAST, MOST}) {
             checks.dueIndex("5: back(" + wrong + ")", line, () -> line.back(wrong));
         }
@@ -206,7 +177,7 @@ public final class PromiseTest {
         checks.due("5: all lie; cats do not matter", 0, line.back(0));
         checks.due("5: all tries", 8, line.ofRoute(0, 9));
         checks.due("5: used still", 1, line.ofRoute(0, 3));
-        Miceline other = bothOn();
+        Miceline other = Lines.bothOn();
         other.go(1, 2);
         other.go(0, 30);
         checks.due("5: a train of another route", 2, other.back(0));
@@ -215,7 +186,7 @@ public final class PromiseTest {
     }
 
     private void lie() {
-        Miceline line = meeting();
+        Miceline line = Lines.meeting();
         for (int wrong : new int[] {-1, 3, LEAST, MOST}) {
             checks.dueIndex("6: lie(false, " + wrong + ", true)", line, () -> line.lie(false, wrong, true));
         }
@@ -237,7 +208,7 @@ public final class PromiseTest {
     }
 
     private void loose() {
-        Miceline line = withSections(1, 1, 1, 1, 1);
+        Miceline line = Lines.withSections(1, 1, 1, 1, 1);
         line.route(0, 1, NONE);
         line.route(1, 2, NONE);
         line.route(3, 4, 1);
@@ -262,7 +233,7 @@ public final class PromiseTest {
     }
 
     private void looseAndPulled() {
-        Miceline line = meeting();
+        Miceline line = Lines.meeting();
         line.pull(0);
         checks.due("7: one is pulled", 1, line.loose(0, 1, true));
         checks.due("7: nobody holds it then", NONE, line.ofRoute(1, 5));
@@ -279,7 +250,7 @@ public final class PromiseTest {
     }
 
     private void cat() {
-        Miceline line = meeting();
+        Miceline line = Lines.meeting();
         for (int wrong : new int[] {-1, 3, LEAST, MOST}) {
             checks.dueIndex("8: cat(" + wrong + ", true)", line, () -> line.cat(wrong, true) ? 1 : 0);
         }
@@ -295,7 +266,7 @@ public final class PromiseTest {
     }
 
     private void train() {
-        Miceline line = meeting();
+        Miceline line = Lines.meeting();
         for (int wrong : new int[] {-1, 2, LEAST, MOST}) {
             checks.dueIndex("9: train(" + wrong + ", 0, 0)", line, () -> line.train(wrong, 0, 0));
         }
@@ -319,7 +290,7 @@ public final class PromiseTest {
     }
 
     private void enter() {
-        Miceline line = meeting();
+        Miceline line = Lines.meeting();
         line.pass(7);
         line.train(0, 2, 3);
         line.train(0, 1, 5);
@@ -354,7 +325,7 @@ public final class PromiseTest {
         line.go(1, 30);
         line.pull(0);
         checks.dueState("10: it has left", line, () -> line.enter(0));
-        Miceline cats = meeting();
+        Miceline cats = Lines.meeting();
         cats.train(0, 1, 1);
         cats.pull(0);
         cats.cat(0, true);
@@ -362,7 +333,7 @@ public final class PromiseTest {
     }
 
     private void go() {
-        Miceline line = withSections(2, 3);
+        Miceline line = Lines.withSections(2, 3);
         line.route(1, 0, NONE);
         line.train(0, 3, 1);
         for (int wrong : new int[] {-1, 1, LEAST, MOST}) {
@@ -392,7 +363,7 @@ public final class PromiseTest {
         checks.dueState("11: it has left", line, () -> line.go(0, 1));
         checks.dueArgument("11: it has left, by no tails", line, () -> line.go(0, 0));
         checks.due("11: without a clash", 0, line.line(9));
-        Miceline far = withSections(5, 5, 5);
+        Miceline far = Lines.withSections(5, 5, 5);
         far.route(0, 1, 2);
         far.train(0, 6, 1);
         far.pull(0);
@@ -402,7 +373,7 @@ public final class PromiseTest {
     }
 
     private void goClashes() {
-        Miceline line = bothOn();
+        Miceline line = Lines.bothOn();
         line.go(1, 2);
         checks.due("11: no clash", 0, line.line(9));
         line.go(0, 1);
@@ -417,7 +388,7 @@ public final class PromiseTest {
         checks.due("11: one more, and leaving is none", 3, line.line(9));
         line.go(1, 1);
         checks.due("11: it left, too", 3, line.line(9));
-        Miceline same = withSections(2, 2);
+        Miceline same = Lines.withSections(2, 2);
         same.route(0, 1, NONE);
         same.route(1, 0, NONE);
         same.loose(0, 1, true);
@@ -434,7 +405,7 @@ public final class PromiseTest {
         checks.due("11: in two sections, one clash a tail", 3, same.line(9));
         same.go(1, 3);
         checks.due("11: each tail", 6, same.line(9));
-        Miceline wait = meeting();
+        Miceline wait = Lines.meeting();
         wait.train(0, 1, 1);
         wait.train(0, 1, 1);
         wait.pull(0);
@@ -462,7 +433,7 @@ public final class PromiseTest {
     }
 
     private void knock() {
-        Miceline line = meeting();
+        Miceline line = Lines.meeting();
         line.pull(0);
         line.pull(1);
         for (int k = 1; k <= 3; k++) {
@@ -472,7 +443,7 @@ public final class PromiseTest {
     }
 
     private void ofSection() {
-        Miceline line = withSections(2, 3, 5);
+        Miceline line = Lines.withSections(2, 3, 5);
         line.route(1, 0, NONE);
         line.route(2, 0, NONE);
         for (int wrong : new int[] {-1, 3, LEAST, MOST}) {
@@ -514,7 +485,7 @@ public final class PromiseTest {
     }
 
     private void ofRoute() {
-        Miceline line = withSections(2, 3, 5);
+        Miceline line = Lines.withSections(2, 3, 5);
         line.route(1, 2, NONE);
         line.route(2, 0, 1);
         for (int wrong : new int[] {-1, 2, LEAST, MOST}) {
@@ -544,7 +515,7 @@ public final class PromiseTest {
     }
 
     private void holder() {
-        Miceline line = withSections(1, 1, 1, 1);
+        Miceline line = Lines.withSections(1, 1, 1, 1);
         line.route(0, 1, NONE);
         line.route(2, 3, NONE);
         line.route(1, 2, NONE);
@@ -568,7 +539,7 @@ public final class PromiseTest {
     }
 
     private void ofTrain() {
-        Miceline line = withSections(2, 3, 5);
+        Miceline line = Lines.withSections(2, 3, 5);
         line.route(1, 2, 0);
         line.route(0, 1, NONE);
         line.pass(5);
@@ -602,7 +573,7 @@ public final class PromiseTest {
     }
 
     private void line() {
-        Miceline line = bothOn();
+        Miceline line = Lines.bothOn();
         for (int wrong : new int[] {-1, 17, LEAST, MOST}) {
             checks.dueArgument("17: line(" + wrong + ")", line, () -> line.line(wrong));
         }
@@ -642,7 +613,7 @@ public final class PromiseTest {
     }
 
     private void sight() {
-        Miceline line = withSections(1, 1, 1);
+        Miceline line = Lines.withSections(1, 1, 1);
         checks.due("18: nothing", "...", line.sight());
         line.route(0, 1, 2);
         line.lie(true, 0, true);
@@ -675,7 +646,7 @@ public final class PromiseTest {
     }
 
     private void would() {
-        Miceline line = meeting();
+        Miceline line = Lines.meeting();
         for (int wrong : new int[] {-1, 2, LEAST, MOST}) {
             checks.dueIndex("19: would(" + wrong + ", true)", line, () -> line.would(wrong, true));
             checks.dueIndex("19: would(" + wrong + ", false)", line, () -> line.would(wrong, false));
@@ -707,7 +678,7 @@ public final class PromiseTest {
     }
 
     private void dangerOfLoose() {
-        Miceline line = meeting();
+        Miceline line = Lines.meeting();
         for (int wrong : new int[] {-1, 8, 15, LEAST, MOST}) {
             checks.dueArgument("20: danger(" + wrong + ", 0)", line, () -> line.danger(wrong, 0));
         }
@@ -721,16 +692,16 @@ public final class PromiseTest {
         checks.due("20: a loose lock, each goes to the middle", 6, line.danger(0, 0));
         line.loose(0, 1, false);
         checks.due("20: not loose any more", NONE, line.danger(0, 0));
-        Miceline same = withSections(1, 1);
+        Miceline same = Lines.withSections(1, 1);
         same.route(0, 1, NONE);
         same.route(0, 1, NONE);
         same.loose(1, 0, true);
         checks.due("20: the same row, a loose lock", 4, same.danger(0, 0));
-        Miceline apart = withSections(1, 1, 1, 1);
+        Miceline apart = Lines.withSections(1, 1, 1, 1);
         apart.route(0, 1, NONE);
         apart.route(2, 3, NONE);
         checks.due("20: routes apart, all lie", NONE, apart.danger(15, 3));
-        Miceline three = withSections(1, 1, 1, 1, 1);
+        Miceline three = Lines.withSections(1, 1, 1, 1, 1);
         three.route(0, 1, 2);
         three.route(3, 4, 2);
         three.loose(0, 1, true);
@@ -738,7 +709,7 @@ public final class PromiseTest {
     }
 
     private void dangerOfLiars() {
-        Miceline line = meeting();
+        Miceline line = Lines.meeting();
         // 0 is PULLED, enters and goes to the middle; it is put BACK, as its counter and the middle's detector
         // lie; then 1 is PULLED, enters and goes to the middle.
         checks.due("20: the middle and the counter of 0", 7, line.danger(2, 1));
@@ -747,7 +718,7 @@ public final class PromiseTest {
         checks.due("20: the end of 0 and its counter", 7, line.danger(1, 1));
         checks.due("20: the end of 0 and the other counter", NONE, line.danger(1, 2));
         checks.due("20: all of them", 7, line.danger(7, 3));
-        Miceline same = withSections(1, 1);
+        Miceline same = Lines.withSections(1, 1);
         same.route(0, 1, NONE);
         same.route(0, 1, NONE);
         checks.due("20: the same row, the first detector", 5, same.danger(1, 1));
@@ -756,7 +727,7 @@ public final class PromiseTest {
 
     /** A train that was let go while its LEVER is BACK goes on from SECTION to SECTION. */
     private void dangerOfLaterPlaces() {
-        Miceline line = withSections(1, 1, 1, 1);
+        Miceline line = Lines.withSections(1, 1, 1, 1);
         line.route(0, 1, 2);
         line.route(3, 2, NONE);
         checks.due("20: let go in its first section", 8, line.danger(1, 1));
@@ -768,19 +739,19 @@ public final class PromiseTest {
 
     /** What stands on the line now, LIES now, or sits there now, does not matter to the proof. */
     private void dangerOfTheFrameAlone() {
-        Miceline line = bothOn();
+        Miceline line = Lines.bothOn();
         checks.due("20: trains there are do not matter", 6, line.danger(0, 0));
         line.cat(0, true);
         line.cat(1, true);
         checks.due("20: cats do not matter", 6, line.danger(0, 0));
-        Miceline lies = meeting();
+        Miceline lies = Lines.meeting();
         lies.lie(true, 0, true);
         lies.lie(false, 1, true);
         checks.due("20: what lies now does not matter", NONE, lies.danger(0, 0));
         String before = Checks.picture(lies);
         lies.danger(7, 3);
         checks.due("20: nothing is changed", before, Checks.picture(lies));
-        Miceline later = withSections(1, 1);
+        Miceline later = Lines.withSections(1, 1);
         later.route(0, 1, NONE);
         checks.due("20: one route", NONE, later.danger(3, 1));
         later.route(1, 0, NONE);
@@ -788,7 +759,7 @@ public final class PromiseTest {
     }
 
     private void ahead() {
-        Miceline line = withSections(2, 3, 1);
+        Miceline line = Lines.withSections(2, 3, 1);
         line.route(1, 0, 2);
         line.train(0, 2, 1);
         for (int wrong : new int[] {-1, 1, LEAST, MOST}) {
@@ -815,13 +786,13 @@ public final class PromiseTest {
     }
 
     private void isSound() {
-        Miceline line = bothOn();
+        Miceline line = Lines.bothOn();
         checks.due("22: a loose lock", true, line.isSound());
         line.go(0, 2);
         line.go(1, 2);
         checks.due("22: clashes by a loose lock", 1, line.line(9));
         checks.due("22: clashes by a loose lock", true, line.isSound());
-        Miceline liars = withSections(1, 1);
+        Miceline liars = Lines.withSections(1, 1);
         liars.route(0, 1, NONE);
         liars.train(0, 6, 2);
         liars.train(0, 6, 3);
@@ -844,7 +815,7 @@ public final class PromiseTest {
         long before = line.digest();
         checks.due("23: it changes nothing", before, line.digest());
         checks.due("23: new", dueDigest(line), before);
-        Miceline full = bothOn();
+        Miceline full = Lines.bothOn();
         checks.due("23: two on", dueDigest(full), full.digest());
         full.lie(false, 1, true);
         full.cat(0, true);
