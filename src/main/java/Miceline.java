@@ -183,19 +183,16 @@ public final class Miceline {
         private static final int WORDS = 1024;
 
         private final int[] states;
-        private final int[] steps;
         private final long[] reached;
         private int count;
         private int honestDetectors;
         private int liarCounters;
         private int state;
-        private int step;
         private int pulled;
         private int occupied;
 
         Proof() {
             states = new int[MOST_STATES];
-            steps = new int[MOST_STATES];
             reached = new long[WORDS];
         }
 
@@ -205,21 +202,26 @@ public final class Miceline {
             liarCounters = counters;
             Arrays.fill(reached, 0L);
             count = 0;
-            step = 0;
             reach(0);
+            int steps = 0;
+            int nextDistance = 0;
             for (int at = 0; at < MOST_STATES && at < count; at++) {
-                takeUp(routes, states[at], steps[at] + 1);
+                // Here the states of the next distance begin, and none of a later one is there yet.
+                if (at == nextDistance) {
+                    steps++;
+                    nextDistance = count;
+                }
+                takeUp(routes, states[at]);
                 if (comesToDanger(routes)) {
-                    return step;
+                    return steps;
                 }
             }
             return NONE;
         }
 
-        /** Makes a state the one that the next steps, which have this number, start from. */
-        private void takeUp(ArrayList<Route> routes, int from, int number) {
+        /** Makes a state the one that the next steps start from. */
+        private void takeUp(ArrayList<Route> routes, int from) {
             state = from;
-            step = number;
             pulled = 0;
             occupied = 0;
             for (int k = 0; k < routes.size(); k++) {
@@ -290,7 +292,6 @@ public final class Miceline {
             if (count < MOST_STATES && (reached[word] & bit) == 0L) {
                 reached[word] |= bit;
                 states[count] = next;
-                steps[count] = step;
                 count++;
             }
         }

@@ -395,8 +395,10 @@ public final class AskEdgeTest {
     }
 
     private void soundWithLooseLocks() {
-        checks.sentence(22, "Returns whether all of this is so: CLASHES is 0, if no two LIED at once ever, and no lock was LOOSE ever");
-        checks.sentence(22, "if no lock is LOOSE, danger() of all detectors without a counter, and of all counters without a detector, is NONE");
+        checks.sentence(22, "Returns whether all of this is so: CLASHES is 0, if no two LIED at once ever, and no "
+                + "lock was LOOSE ever");
+        checks.sentence(22, "if no lock is LOOSE, danger() of all detectors without a counter, and of all counters "
+                + "without a detector, is NONE");
         checks.sentence(22, "no two FOES are PULLED but with a LOOSE lock");
         Miceline line = Lines.bothOn();
         checks.due("two foes are pulled, and danger is near", true, line.isSound());

@@ -129,7 +129,8 @@ public final class FrameEdgeTest {
     }
 
     private void counterShows() {
-        checks.sentence(0, "A counter shows FULL, if a train that entered by its ROUTE has not left, and it does not LIE.");
+        checks.sentence(0, "A counter shows FULL, if a train that entered by its ROUTE has not left, and it does "
+                + "not LIE.");
         Miceline line = Lines.meeting();
         line.train(0, 2, 1);
         line.train(0, 2, 1);
@@ -210,7 +211,8 @@ public final class FrameEdgeTest {
     }
 
     private void pullHeldBySmallest() {
-        checks.sentence(0, "Where one of several is taken and nothing else is said, it is that with the smallest number.");
+        checks.sentence(0, "Where one of several is taken and nothing else is said, it is that with the smallest "
+                + "number.");
         checks.sentence(0, "(the smallest such ROUTE HOLDS it)");
         Miceline line = Lines.withSections(1, 1, 1, 1, 1, 1);
         line.route(0, 1, NONE);
@@ -413,7 +415,8 @@ public final class FrameEdgeTest {
     }
 
     private void backCounter() {
-        checks.sentence(0, "To put BACK a LEVER that is PULLED: refused by the first of these that is so: 1, if its counter shows FULL");
+        checks.sentence(0, "To put BACK a LEVER that is PULLED: refused by the first of these that is so: 1, if its "
+                + "counter shows FULL");
         checks.sentence(5, "Returns 0, or why it is refused (1 or 2).");
         Miceline line = Lines.trainOn(3, 2, 2);
         line.lie(false, 0, true);
@@ -506,7 +509,8 @@ public final class FrameEdgeTest {
     }
 
     private void howOftenTried() {
-        checks.sentence(0, "of each ROUTE how often its LEVER was tried (pulled or put back, also if that was refused)");
+        checks.sentence(0, "of each ROUTE how often its LEVER was tried (pulled or put back, also if that was "
+                + "refused)");
         Miceline line = Lines.meeting();
         line.train(0, 1, 1);
         line.pull(0);
@@ -630,7 +634,8 @@ public final class FrameEdgeTest {
     }
 
     private void looseWhilePulled() {
-        checks.sentence(7, "Throws `IllegalStateException` if it is to be not LOOSE any more, and both LEVERS are PULLED");
+        checks.sentence(7, "Throws `IllegalStateException` if it is to be not LOOSE any more, and both LEVERS are "
+                + "PULLED");
         Miceline line = Lines.alike(3);
         Lines.setAllLoose(line, 3);
         line.pull(0);

@@ -34,7 +34,8 @@ public final class ProofEdgeTest {
     }
 
     private void setsOfLiars() {
-        checks.sentence(20, "Throws `IllegalArgumentException` if detectors is no set of SECTIONS that there are, or counters none of ROUTES");
+        checks.sentence(20, "Throws `IllegalArgumentException` if detectors is no set of SECTIONS that there are, or "
+                + "counters none of ROUTES");
         Miceline line = new Miceline();
         for (int sections = 0; sections <= 8; sections++) {
             int all = (1 << sections) - 1;
@@ -95,7 +96,8 @@ public final class ProofEdgeTest {
     }
 
     private void liarsAsAsked() {
-        checks.sentence(0, "a set of detectors and a set of counters that are liars (others are not, whatever LIES now)");
+        checks.sentence(0, "a set of detectors and a set of counters that are liars (others are not, whatever LIES "
+                + "now)");
         Miceline line = Lines.meeting();
         for (int section = 0; section < 3; section++) {
             line.lie(false, section, true);

@@ -4,6 +4,7 @@ import java.lang.management.ManagementFactory;
 public final class RoomTest {
     private static final int CALLS = 512;
     private static final long MOST_BYTES = 2_000_000L;
+    private static final long MOST_BYTES_OF_A_LINE = 40_000L;
 
     public static void main(String[] args) {
         Checks checks = new Checks("RoomTest");
@@ -12,24 +13,17 @@ public final class RoomTest {
         checks.due("isSound() keeps to the room", true, bytesOf(() -> line.isSound() ? 1 : 0) < MOST_BYTES);
         checks.due("danger() keeps to the room", true, bytesOf(() -> line.danger(255, 15)) < MOST_BYTES);
         checks.due("sight() keeps to the room", true, bytesOf(() -> line.sight().length()) < MOST_BYTES);
+        long ofLines = bytesOf(() -> new Miceline().line(0));
+        checks.due("a new line keeps to the room", true, ofLines < CALLS * MOST_BYTES_OF_A_LINE);
         checks.end();
     }
 
+    /** The full line, with a train of each ROUTE on the way. */
     private static Miceline full() {
-        Miceline line = new Miceline();
-        for (int k = 0; k < 8; k++) {
-            line.section(5);
-        }
-        for (int k = 0; k < 4; k++) {
-            line.route(2 * k, 2 * k + 1, -1);
-            line.pull(k);
-        }
-        for (int k = 0; k < 10; k++) {
-            line.train(k % 4, 6, 5);
-        }
-        for (int k = 0; k < 4; k++) {
-            line.enter(k);
-            line.go(k, 6);
+        Miceline line = Lines.full();
+        for (int train = 0; train < 4; train++) {
+            line.enter(train);
+            line.go(train, 6);
         }
         return line;
     }

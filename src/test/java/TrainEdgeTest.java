@@ -301,7 +301,8 @@ public final class TrainEdgeTest {
     }
 
     private void covers() {
-        checks.sentence(0, "and covers as many tails as its LENGTH, from NOSE back (those below 1, and beyond the end, are elsewhere).");
+        checks.sentence(0, "and covers as many tails as its LENGTH, from NOSE back (those below 1, and beyond the "
+                + "end, are elsewhere).");
         checks.sentence(0, "It is IN a SECTION, if it covers some tail of it.");
         dueCover(1, 1, 1, 2, 2, 2, 4);
         dueCover(2, 1, 1, 3, 2, 2, 6, 4);
