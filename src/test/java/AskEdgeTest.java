@@ -107,8 +107,9 @@ public final class AskEdgeTest {
 
     private void sectionInUse() {
         checks.sentence(14, "Returns that.");
-        checks.sentence(14, "2 1 if its detector shows FULL, otherwise 0, 3 1 if that LIES, otherwise 0, 4 1 if a CAT sits there, "
-                + "otherwise 0, 5 the set of ROUTES that have it, 6 the last train that came to be IN it (NONE)");
+        checks.sentence(14, "2 1 if its detector shows FULL, otherwise 0, 3 1 if that LIES, otherwise 0, "
+                + "4 1 if a CAT sits there, otherwise 0, 5 the set of ROUTES that have it, "
+                + "6 the last train that came to be IN it (NONE)");
         Miceline line = Lines.withSections(1, 2, 3, 4);
         line.route(0, 1, NONE);
         line.route(3, 2, NONE);
@@ -177,9 +178,11 @@ public final class AskEdgeTest {
 
     private void routeInUse() {
         checks.sentence(15, "Returns that.");
-        checks.sentence(15, "2 1 if its LEVER is PULLED, otherwise 0, 3 1 if USED, otherwise 0, 4 the set of its FOES");
-        checks.sentence(15, "6 how many trains that entered by it have not LEFT, 7 1 if its counter shows FULL, otherwise 0, "
-                + "8 1 if that LIES, otherwise 0, 9 how often its LEVER was tried");
+        checks.sentence(15, "2 1 if its LEVER is PULLED, otherwise 0, 3 1 if USED, otherwise 0, "
+                + "4 the set of its FOES");
+        checks.sentence(15, "6 how many trains that entered by it have not LEFT, "
+                + "7 1 if its counter shows FULL, otherwise 0, 8 1 if that LIES, otherwise 0, "
+                + "9 how often its LEVER was tried");
         Miceline line = Lines.meeting();
         line.train(0, 3, 1);
         line.train(0, 3, 1);
@@ -252,9 +255,10 @@ public final class AskEdgeTest {
     private void trainInEachState() {
         checks.sentence(16, "Returns that.");
         checks.sentence(16, "- `train`: a train");
-        checks.sentence(16, "- `what`: 0 its ROUTE, 1 LENGTH, 2 TASTE, 3 0 if it WAITS, 1 if it is ON, 2 if it has LEFT, "
-                + "4 NOSE (NONE, if it is not ON), 5 the set of SECTIONS in which it is, 6 cheese: what it was paid, or would be "
-                + "paid now, if it still WAITS");
+        checks.sentence(16, "- `what`: 0 its ROUTE, 1 LENGTH, 2 TASTE, 3 0 if it WAITS, 1 if it is ON, "
+                + "2 if it has LEFT, "
+                + "4 NOSE (NONE, if it is not ON), 5 the set of SECTIONS in which it is, "
+                + "6 cheese: what it was paid, or would be paid now, if it still WAITS");
         Miceline line = Lines.meeting();
         line.pass(3);
         line.train(1, 3, 4);
@@ -294,8 +298,8 @@ public final class AskEdgeTest {
 
     private void lineInUse() {
         checks.sentence(17, "Returns that.");
-        checks.sentence(17, "- `what`: 0 SECTIONS, 1 ROUTES, 2 LEVERS that are PULLED, 3 trains, 4 those that WAIT, 5 those that are "
-                + "ON, 6 those that have LEFT, 7 MINUTE, 8 cheese that was paid, 9 CLASHES");
+        checks.sentence(17, "- `what`: 0 SECTIONS, 1 ROUTES, 2 LEVERS that are PULLED, 3 trains, 4 those that WAIT, "
+                + "5 those that are ON, 6 those that have LEFT, 7 MINUTE, 8 cheese that was paid, 9 CLASHES");
         checks.sentence(17, "12 CATS, 13 pairs of FOES, 14 LOOSE locks, 15 1 if a lock ever was LOOSE, otherwise 0, "
                 + "16 how many were REFUSED (by knock() only)");
         Miceline line = Lines.meeting();
@@ -530,8 +534,10 @@ public final class AskEdgeTest {
     }
 
     private void digestInOrder() {
-        checks.sentence(23, "line() of 0 to 16; SECTION by SECTION ofSection() of 0 to 6; ROUTE by ROUTE ofRoute() of 0 to 9, "
-                + "would() to PULL, then to put BACK; train by train ofTrain() of 0 to 6; danger() of all detectors and all counters, "
+        checks.sentence(23, "line() of 0 to 16; SECTION by SECTION ofSection() of 0 to 6; "
+                + "ROUTE by ROUTE ofRoute() of 0 to 9, "
+                + "would() to PULL, then to put BACK; train by train ofTrain() of 0 to 6; "
+                + "danger() of all detectors and all counters, "
                 + "then of no detector and no counter; how many signs sight() has; 1 if isSound(), otherwise 0.");
         checks.due("sections alone", digestOf(Lines.withSections(3, 5)).longValue(), Lines.withSections(3, 5).digest());
         Miceline line = Lines.meeting();

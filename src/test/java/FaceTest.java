@@ -72,7 +72,8 @@ public final class FaceTest {
 
     private static String signature(Method method) {
         StringBuilder text = new StringBuilder(method.getReturnType().getSimpleName());
-        text.append(' ').append(method.getName()).append('(').append(names(method.getParameterTypes(), ",")).append(')');
+        text.append(' ').append(method.getName()).append('(');
+        text.append(names(method.getParameterTypes(), ",")).append(')');
         String thrown = names(((Executable) method).getExceptionTypes(), " ");
         return thrown.isEmpty() ? text.toString() : text.append(' ').append(thrown).toString();
     }
@@ -88,7 +89,8 @@ public final class FaceTest {
     private static void allPrivate(Checks checks, Class<?> face) {
         for (Method method : face.getDeclaredMethods()) {
             int is = method.getModifiers();
-            checks.due(method.getName() + " is public or private", true, Modifier.isPublic(is) || Modifier.isPrivate(is));
+            checks.due(method.getName() + " is public or private", true,
+                    Modifier.isPublic(is) || Modifier.isPrivate(is));
         }
         for (Field field : face.getDeclaredFields()) {
             checks.due(field.getName() + " is private", true, Modifier.isPrivate(field.getModifiers()));

@@ -14,7 +14,8 @@ public final class LanguageTest {
     private static final int MOST_LINES = 60;
     private static final int MOST_PARAMETERS = 7;
     private static final int MOST_DEPTH = 8;
-    private static final Set<String> LIBRARY = Set.of("add", "append", "bitCount", "fill", "get", "length", "max", "size", "toString");
+    private static final Set<String> LIBRARY = Set.of(
+            "add", "append", "bitCount", "fill", "get", "length", "max", "size", "toString");
     private static final Pattern NAME_AND_BRACKET = Pattern.compile("(?<!new )\\b([a-z]\\w*)\\(");
     private static final String[] NEVER = {
         "->", "::", "\\btry\\b", "\\bcatch\\b", "\\bfinally\\b", "\\bsynchronized\\b", "\\bassert\\b", "\\bnative\\b",
@@ -77,7 +78,8 @@ public final class LanguageTest {
                 checks.due(found.group(2) + " is short", true, end > 0 && end <= MOST_LINES);
                 checks.due(found.group(2) + " takes few", true, found.group(3).split(",").length <= MOST_PARAMETERS);
                 String body = String.join("\n", lines.subList(k + 1, k + Math.max(1, end)));
-                checks.due(found.group(2) + " is the only one of its name", true, bodies.put(found.group(2), body) == null);
+                checks.due(found.group(2) + " is the only one of its name", true,
+                        bodies.put(found.group(2), body) == null);
             }
         }
         checks.due("methods are found", true, methods > 23);

@@ -84,7 +84,7 @@ public final class PlainTest {
             checks.due("run " + run + ": sight()", plain.sight(), line.sight());
             return;
         }
-        int a = kind == 15 ? number(17) : kind == 18 ? number(256) & (one(9) ? -1 : (1 << line.line(0)) - 1) : first(kind);
+        int a = first(kind);
         int b = second(kind);
         int c = kind == 1 ? (one(2) ? -1 : number(line.line(0))) : kind == 7 ? 1 + number(5) : 0;
         boolean is = one(2);
@@ -108,6 +108,10 @@ public final class PlainTest {
                 return number(line.line(3));
             case 10:
                 return one(12) ? number(100) : 1 + any(one(3) ? 99 : 5);
+            case 15:
+                return number(17);
+            case 18:
+                return number(256) & (one(9) ? -1 : (1 << line.line(0)) - 1);
             default:
                 return number(line.line(1));
         }

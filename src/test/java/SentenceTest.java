@@ -69,7 +69,7 @@ public final class SentenceTest {
         }
     }
 
-    /** Of the description, what ends with a stop; of a promise, each line but for its signature, which FaceTest knows. */
+    /** Of the description, what ends with a stop; of a promise, each line but for its signature (see FaceTest). */
     private static List<String> sentences(int promise, String text) {
         List<String> all = new ArrayList<>();
         String plain = text.replaceAll("== .*\n", "").replaceAll("\\s+", " ");
