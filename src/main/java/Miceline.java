@@ -484,7 +484,7 @@ public final class Miceline {
         }
         route.setLoose(foe, is);
         foe.setLoose(route, is);
-        everLoose |= is;
+        everLoose = everLoose || is;
         return countLoose();
     }
 

@@ -14,7 +14,7 @@ final class Checks {
         this.name = name;
     }
 
-    /** The sentence of the document that the next checks are of; its promise, or 0 for the description. */
+    /** The sentence of the document that the next checks are of; its promise, or 0 outside of these. */
     void sentence(int promise, String said) {
         sentence = "[" + promise + ": " + said + "] ";
     }

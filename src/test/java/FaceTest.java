@@ -1,8 +1,11 @@
+import java.io.IOException;
 import java.lang.reflect.Constructor;
 import java.lang.reflect.Executable;
 import java.lang.reflect.Field;
 import java.lang.reflect.Method;
 import java.lang.reflect.Modifier;
+import java.nio.file.Files;
+import java.nio.file.Path;
 import java.util.ArrayList;
 import java.util.Collections;
 import java.util.HashSet;
@@ -11,47 +14,60 @@ import java.util.Set;
 
 /** The class shows the document's face and nothing else. */
 public final class FaceTest {
-    private static final String B = "IndexOutOfBoundsException";
-    private static final String A = "IllegalArgumentException";
-    private static final String S = "IllegalStateException";
-    private static final String[] FACE = {
-        "int section(int) " + A + " " + S,
-        "int route(int,int,int) " + B + " " + A + " " + S,
-        "int pull(int) " + B + " " + S,
-        "int back(int) " + B + " " + S,
-        "int lie(boolean,int,boolean) " + B,
-        "int loose(int,int,boolean) " + B + " " + A + " " + S,
-        "boolean cat(int,boolean) " + B,
-        "int train(int,int,int) " + B + " " + A + " " + S,
-        "int enter(int) " + B + " " + S,
-        "int go(int,int) " + B + " " + A + " " + S,
-        "int pass(int) " + A + " " + S,
-        "int knock()",
-        "int ofSection(int,int) " + B + " " + A,
-        "int ofRoute(int,int) " + B + " " + A,
-        "int ofTrain(int,int) " + B + " " + A,
-        "int line(int) " + A,
-        "String sight()",
-        "int would(int,boolean) " + B,
-        "int danger(int,int) " + A,
-        "int ahead(int,int) " + B + " " + A + " " + S,
-        "boolean isSound()",
-        "long digest()"
-    };
-
-    public static void main(String[] args) {
+    public static void main(String[] args) throws IOException {
         Checks checks = new Checks("FaceTest");
         Class<?> face = Miceline.class;
         checks.due("modifiers", Modifier.PUBLIC | Modifier.FINAL, face.getModifiers());
-        checks.due("public methods", sorted(List.of(FACE)), sorted(publicMethods(face)));
+        checks.due("public methods", sorted(dueMethods()), sorted(publicMethods(face)));
         Constructor<?>[] made = face.getDeclaredConstructors();
         checks.due("constructors", 1, made.length);
         checks.due("the constructor's parameters", 0, made[0].getParameterCount());
+        checks.due("the constructor throws nothing", 0, made[0].getExceptionTypes().length);
         checks.due("the constructor is public", true, Modifier.isPublic(made[0].getModifiers()));
+        asWritten(checks);
         allPrivate(checks, face);
         ownNames(checks, face);
         innerClasses(checks, face);
+        leftFree(checks, face);
         checks.end();
+    }
+
+    private static List<String> dueMethods() throws IOException {
+        List<String> texts = new ArrayList<>();
+        for (Face.Call call : Face.calls()) {
+            if (!call.isConstructor()) {
+                String text = call.answer + " " + call.name + "(" + String.join(",", call.types) + ")";
+                texts.add(call.thrown.isEmpty() ? text : text + " " + String.join(" ", call.thrown));
+            }
+        }
+        return texts;
+    }
+
+    /** The names of parameters, and the order of what is thrown, are those of the document, too. */
+    private static void asWritten(Checks checks) throws IOException {
+        String program = Files.readString(Path.of("src/main/java/Miceline.java")).replaceAll("\\s+", " ");
+        List<Face.Call> calls = Face.calls();
+        checks.due("calls of the document", 23, calls.size());
+        for (Face.Call call : calls) {
+            String thrown = call.thrown.isEmpty() ? "" : " throws " + String.join(", ", call.thrown);
+            String due = "public " + call.said + thrown + " {";
+            checks.due("the program has: " + due, true, program.contains(due));
+        }
+    }
+
+    private static void leftFree(Checks checks, Class<?> face) {
+        checks.sentence(0, "How the state is held inside the object is free, as are the speed of each call, the text "
+                + "of toString and the behaviour of equals and hashCode.");
+        for (Class<?> one : withInner(face)) {
+            for (Method method : one.getDeclaredMethods()) {
+                checks.due(one.getName() + " leaves " + method.getName() + " as it is", true,
+                        !List.of("toString", "equals", "hashCode").contains(method.getName()));
+            }
+        }
+        checks.sentence(0, "Use of one object from several threads at once is not promised to be safe.");
+        for (Method method : face.getDeclaredMethods()) {
+            checks.due(method.getName() + " takes no lock", false, Modifier.isSynchronized(method.getModifiers()));
+        }
     }
 
     private static String sorted(List<String> texts) {

@@ -23,7 +23,9 @@ public final class SentenceTest {
         SentenceTest test = new SentenceTest();
         test.readTests();
         String document = Files.readString(Path.of("../shared/DOC.md"));
-        test.compare(0, between(document, "## Description", "The constructor and the methods follow"));
+        test.compare(0, between(document, "## What it is", "## The public face")
+                + between(document, "## Description", "The constructor and the methods follow")
+                + document.substring(document.indexOf('\n', document.indexOf("## Not promised"))));
         for (int k = 1; k <= PROMISES; k++) {
             String end = k < PROMISES ? "## Promise " + (k + 1) + ":" : "## Not promised";
             test.compare(k, between(document, "## Promise " + k + ":", end));
